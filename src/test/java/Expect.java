@@ -1,0 +1,130 @@
+/** Counts the answers that are not the ones due, and makes desks quickly. */
+final class Expect {
+    interface Call {
+        int answer();
+    }
+
+    interface Deed {
+        void run();
+    }
+
+    private static int wrong = 0;
+    private static int asked = 0;
+
+    private Expect() {
+    }
+
+    static void same(String what, long due, long got) {
+        asked++;
+        if (due != got) {
+            wrong++;
+            System.out.println(what + " answered " + got + ", due is " + due);
+        }
+    }
+
+    static void argument(String what, Call call) {
+        thrown(what, "IllegalArgumentException", call);
+    }
+
+    static void argument(String what, Deed deed) {
+        thrown(what, "IllegalArgumentException", asCall(deed));
+    }
+
+    static void state(String what, Call call) {
+        thrown(what, "IllegalStateException", call);
+    }
+
+    static void state(String what, Deed deed) {
+        thrown(what, "IllegalStateException", asCall(deed));
+    }
+
+    private static Call asCall(Deed deed) {
+        return () -> {
+            deed.run();
+            return 0;
+        };
+    }
+
+    private static void thrown(String what, String due, Call call) {
+        asked++;
+        String got;
+        try {
+            got = Integer.toString(call.answer());
+        } catch (RuntimeException e) {
+            got = e.getClass().getSimpleName();
+        }
+        if (!got.equals(due)) {
+            wrong++;
+            System.out.println(what + " answered " + got + ", due is " + due);
+        }
+    }
+
+    /** A desk with a table of so many columns and these cells, row by row. */
+    static RelationDesk desk(int columns, int... cells) {
+        RelationDesk desk = new RelationDesk();
+        put(desk, desk.table(columns), columns, cells);
+        return desk;
+    }
+
+    static void put(RelationDesk desk, int table, int columns, int... cells) {
+        for (int i = 0; i < cells.length; i++) {
+            desk.stage(i % columns, cells[i]);
+            if (i % columns == columns - 1) {
+                desk.insert(table);
+            }
+        }
+    }
+
+    /** The numbers from one to another one, for tables of one column. */
+    static int[] range(int from, int to) {
+        int[] numbers = new int[to - from + 1];
+        for (int i = 0; i < numbers.length; i++) {
+            numbers[i] = from + i;
+        }
+        return numbers;
+    }
+
+    static void feed(RelationDesk desk, int... words) {
+        for (int word : words) {
+            desk.feed(word);
+        }
+    }
+
+    static int prepare(RelationDesk desk, int... words) {
+        feed(desk, words);
+        return desk.prepare();
+    }
+
+    /** The table's rows are these, cell by cell. */
+    static void holds(String what, RelationDesk desk, int table, int columns, int... cells) {
+        same(what + ": rows", cells.length / columns, desk.cell(table, -1, 0));
+        for (int i = 0; i < cells.length && i / columns < desk.cell(table, -1, 0); i++) {
+            same(what + ": cell " + i, cells[i], desk.cell(table, i / columns, i % columns));
+        }
+    }
+
+    /** The query gives these rows, cell by cell, then ends, and has cost so much. */
+    static void gives(String what, RelationDesk desk, int[] words, int columns, int cost, int... cells) {
+        same(what + ": columns", columns, prepare(desk, words));
+        for (int i = 0; i < cells.length; i++) {
+            if (i % columns == 0) {
+                same(what + ": step for row " + i / columns, 1, desk.step(500));
+            }
+            same(what + ": cell " + i, cells[i], desk.column(i % columns));
+        }
+        same(what + ": the end", 0, desk.step(500));
+        same(what + ": cost", cost, desk.cost());
+        state(what + ": step behind the end", () -> desk.step(500));
+    }
+
+    static int[] words(int... words) {
+        return words;
+    }
+
+    static void finish(String test) {
+        System.out.println(test + ": " + asked + " answers, " + wrong + " not as due");
+        if (wrong != 0) {
+            System.exit(1);
+        }
+    }
+}
