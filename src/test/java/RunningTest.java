@@ -11,6 +11,9 @@ public final class RunningTest {
         sort();
         limit();
         countAndGroup();
+        deep();
+        wide();
+        again();
         Expect.finish("RunningTest");
     }
 
@@ -58,6 +61,10 @@ public final class RunningTest {
         Expect.gives("not for JOIN", desk, Expect.words(4, 0, 0, 0, 0, 0, 0), 4, 20,
             1, 10, 1, 10, 1, 10, 1, 30, 2, 20, 2, 20, 1, 30, 1, 10, 1, 30, 1, 30, 3, 10, 3, 10);
         Expect.gives("anew for each", desk, Expect.words(9, 3, 0, 1, 1, 0, 0, 1, 0, 0), 1, 9, 6);
+        RelationDesk second = desk();
+        second.index(0, 1);
+        Expect.gives("index of column 1", second, Expect.words(1, 1, 0, 10, 0, 0), 2, 2, 1, 10, 3, 10);
+        Expect.gives("column 0 has none", second, Expect.words(1, 0, 0, 3, 0, 0), 2, 4, 3, 10);
         desk.change(0, 0, 1, 3);
         Expect.gives("behind a change", desk, Expect.words(1, 0, 0, 3, 0, 0), 2, 3, 3, 10, 3, 30, 3, 10);
         desk.begin();
@@ -150,5 +157,76 @@ public final class RunningTest {
         Expect.gives("least of far ones", far, Expect.words(10, 0, 2, 1, 0, 0), 2, 4, 7, 2, 8, Integer.MIN_VALUE);
         Expect.gives("greatest of negatives", far, Expect.words(10, 0, 3, 1, 0, 0), 2, 4,
             7, Integer.MAX_VALUE, 8, -1);
+    }
+
+    /** Ten levels of each kind that takes one part, and of pairs to either side. */
+    private static void deep() {
+        RelationDesk desk = Expect.desk(1, 3, 1, 2);
+        Expect.gives("SELECTs", desk, levels(1, 0, 4, 1), 1, 3, 3, 2);
+        Expect.gives("PROJECTs", desk, levels(2, 1, 0), 1, 3, 3, 1, 2);
+        Expect.gives("DISTINCTs", desk, levels(6), 1, 3, 3, 1, 2);
+        Expect.gives("SORTs", desk, levels(7, 0, 0), 1, 3, 1, 2, 3);
+        Expect.gives("LIMITs", desk, levels(8, 2), 1, 2, 3, 1);
+        Expect.gives("COUNTs", desk, levels(9), 1, 3, 1);
+        Expect.gives("GROUPs", desk, levels(10, 0, 1, 0), 2, 3, 3, 3, 1, 1, 2, 2);
+        desk.delete(0, 0, 1);
+        Expect.gives("UNIONs", desk, pairs(5, 3), 1, 8, 3, 2, 3, 2, 3, 2, 3, 2);
+        RelationDesk one = Expect.desk(1, 7);
+        Expect.gives("CROSSes to the right", one, pairs(3, 9), 10, 10, 7, 7, 7, 7, 7, 7, 7, 7, 7, 7);
+        Expect.gives("JOINs to the left", one, Expect.words(4, 0, 0, 4, 0, 0, 4, 0, 0, 4, 0, 0, 4, 0, 0,
+            4, 0, 0, 4, 0, 0, 4, 0, 0, 4, 0, 0, 0, 0, 0, 0, 0, 0, 0, 0, 0, 0, 0, 0, 0, 0, 0, 0, 0, 0, 0, 0),
+            10, 10, 7, 7, 7, 7, 7, 7, 7, 7, 7, 7);
+        Expect.gives("a DISTINCT ten levels in, anew", desk, Expect.words(9, 3, 0, 0,
+            6, 6, 6, 6, 6, 6, 6, 0, 0), 1, 6, 4);
+    }
+
+    /** Nine times the same words, then a SCAN. */
+    private static int[] levels(int... words) {
+        int[] all = new int[9 * words.length + 2];
+        for (int i = 0; i < 9 * words.length; i++) {
+            all[i] = words[i % words.length];
+        }
+        return all;
+    }
+
+    /** So many terms of a kind, each with a SCAN and the next one for its parts; a SCAN at the end. */
+    private static int[] pairs(int kind, int count) {
+        int[] all = new int[3 * count + 2];
+        for (int i = 0; i < count; i++) {
+            all[3 * i] = kind;
+        }
+        return all;
+    }
+
+    /** Rows of 12 columns, through each kind that gives them on. */
+    private static void wide() {
+        RelationDesk desk = Expect.desk(6, 1, 2, 3, 4, 5, 6);
+        int[] twelve = {1, 2, 3, 4, 5, 6, 1, 2, 3, 4, 5, 6};
+        Expect.gives("CROSS", desk, Expect.words(3, 0, 0, 0, 0), 12, 2, twelve);
+        Expect.gives("JOIN", desk, Expect.words(4, 5, 5, 0, 0, 0, 0), 12, 2, twelve);
+        Expect.gives("JOIN of none", desk, Expect.words(4, 5, 4, 0, 0, 0, 0), 12, 2);
+        Expect.gives("SELECT", desk, Expect.words(1, 11, 0, 6, 3, 0, 0, 0, 0), 12, 2, twelve);
+        Expect.gives("DISTINCT", desk, Expect.words(6, 5, 3, 0, 0, 0, 0, 3, 0, 0, 0, 0), 12, 4, twelve);
+        Expect.gives("SORT", desk, Expect.words(7, 11, 1, 3, 0, 0, 0, 0), 12, 2, twelve);
+        Expect.gives("LIMIT", desk, Expect.words(8, 5, 3, 0, 0, 0, 0), 12, 2, twelve);
+        Expect.gives("UNION", desk, Expect.words(5, 1, 0, 1, 1, 3, 0, 0, 0, 0, 3, 0, 0, 0, 0), 12, 4, twelve);
+        Expect.gives("GROUP", desk, Expect.words(10, 11, 1, 10, 3, 0, 0, 0, 0), 2, 2, 6, 5);
+        Expect.gives("PROJECT", desk, Expect.words(2, 2, 11, 6, 3, 0, 0, 0, 0), 2, 2, 6, 1);
+        Expect.put(desk, 0, 6, 1, 2, 3, 4, 5, 7);
+        Expect.gives("rows that differ at their last column", desk,
+            Expect.words(9, 6, 3, 0, 0, 0, 0), 1, 6, 4);
+    }
+
+    /** What an earlier query kept or read is nothing to a later one. */
+    private static void again() {
+        RelationDesk desk = Expect.desk(2, 1, 10, 2, 20, 1, 30);
+        for (int i = 0; i < 8; i++) {
+            Expect.gives("DISTINCT", desk, Expect.words(6, 2, 1, 0, 0, 0), 1, 3, 1, 2);
+            Expect.gives("SORT", desk, Expect.words(7, 1, 1, 0, 0), 2, 3, 1, 30, 2, 20, 1, 10);
+            Expect.gives("GROUP", desk, Expect.words(10, 0, 0, 0, 0, 0), 2, 3, 1, 2, 2, 1);
+            Expect.gives("COUNT", desk, Expect.words(9, 0, 0), 1, 3, 3);
+            Expect.prepare(desk, 7, 0, 0, 0, 0);
+            Expect.same("a SORT left on its way", 2, desk.step(2));
+        }
     }
 }

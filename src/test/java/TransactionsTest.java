@@ -3,6 +3,7 @@ public final class TransactionsTest {
     public static void main(String[] args) {
         commit();
         rollback();
+        rollbackOfAll();
         oneAtATime();
         inserts();
         deletesAndChanges();
@@ -49,6 +50,31 @@ public final class TransactionsTest {
         desk.begin();
         desk.rollback();
         Expect.holds("what was committed stays", desk, 1, 1, 1);
+    }
+
+    /** The sixth table, of the most rows and columns, to its last cell. */
+    private static void rollbackOfAll() {
+        RelationDesk desk = new RelationDesk();
+        for (int t = 0; t < 6; t++) {
+            desk.table(6);
+        }
+        for (int c = 0; c < 6; c++) {
+            desk.stage(c, c + 1);
+        }
+        for (int k = 0; k < 40; k++) {
+            desk.insert(5);
+        }
+        desk.insert(0);
+        desk.begin();
+        desk.change(5, 8 * 5 + 5, 6, 7);
+        desk.delete(5, 0, 1);
+        desk.delete(0, 0, 1);
+        Expect.same("rows in it", 0, desk.cell(5, -1, 0));
+        Expect.same("rollback", 81, desk.rollback());
+        Expect.same("table 0", 1, desk.cell(0, -1, 0));
+        Expect.same("table 5", 40, desk.cell(5, -1, 0));
+        Expect.same("its last cell", 6, desk.cell(5, 39, 5));
+        Expect.same("tables between", 0, desk.cell(4, -1, 0));
     }
 
     private static void oneAtATime() {
