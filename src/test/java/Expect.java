@@ -10,15 +10,40 @@ final class Expect {
 
     private static int wrong = 0;
     private static int asked = 0;
+    private static int edges = 0;
+    private static String edge = "";
 
     private Expect() {
+    }
+
+    /** One boundary of the document; its name tells the promise's number and the boundary. */
+    static void edge(String name, Deed test) {
+        edges++;
+        edge = name + ": ";
+        try {
+            test.run();
+        } catch (RuntimeException e) {
+            isWrong("a call", e.getClass().getSimpleName(), "no exception");
+        }
+        edge = "";
+    }
+
+    private static void isWrong(String what, String got, String due) {
+        wrong++;
+        System.out.println(edge + what + " answered " + got + ", due is " + due);
     }
 
     static void same(String what, long due, long got) {
         asked++;
         if (due != got) {
-            wrong++;
-            System.out.println(what + " answered " + got + ", due is " + due);
+            isWrong(what, Long.toString(got), Long.toString(due));
+        }
+    }
+
+    static void same(String what, String due, String got) {
+        asked++;
+        if (!due.equals(got)) {
+            isWrong(what, got, due);
         }
     }
 
@@ -38,7 +63,7 @@ final class Expect {
         thrown(what, "IllegalStateException", asCall(deed));
     }
 
-    private static Call asCall(Deed deed) {
+    static Call asCall(Deed deed) {
         return () -> {
             deed.run();
             return 0;
@@ -46,16 +71,15 @@ final class Expect {
     }
 
     private static void thrown(String what, String due, Call call) {
-        asked++;
-        String got;
+        same(what, due, answer(call));
+    }
+
+    /** What the call answers, or the name of what it throws. */
+    static String answer(Call call) {
         try {
-            got = Integer.toString(call.answer());
+            return Integer.toString(call.answer());
         } catch (RuntimeException e) {
-            got = e.getClass().getSimpleName();
-        }
-        if (!got.equals(due)) {
-            wrong++;
-            System.out.println(what + " answered " + got + ", due is " + due);
+            return e.getClass().getSimpleName();
         }
     }
 
@@ -64,6 +88,22 @@ final class Expect {
         RelationDesk desk = new RelationDesk();
         put(desk, desk.table(columns), columns, cells);
         return desk;
+    }
+
+    /** A desk with empty tables of so many columns each. */
+    static RelationDesk tables(int... columns) {
+        RelationDesk desk = new RelationDesk();
+        for (int of : columns) {
+            desk.table(of);
+        }
+        return desk;
+    }
+
+    /** Puts the row at hand in so many times. */
+    static void fill(RelationDesk desk, int table, int times) {
+        for (int i = 0; i < times; i++) {
+            desk.insert(table);
+        }
     }
 
     static void put(RelationDesk desk, int table, int columns, int... cells) {
@@ -82,6 +122,11 @@ final class Expect {
             numbers[i] = from + i;
         }
         return numbers;
+    }
+
+    /** The first values on either side of what is taken, and the farthest ones. */
+    static int[] outside(int least, int most) {
+        return new int[] {least - 1, most + 1, Integer.MIN_VALUE, Integer.MAX_VALUE};
     }
 
     static void feed(RelationDesk desk, int... words) {
@@ -122,7 +167,8 @@ final class Expect {
     }
 
     static void finish(String test) {
-        System.out.println(test + ": " + asked + " answers, " + wrong + " not as due");
+        String named = edges == 0 ? "" : edges + " boundaries, ";
+        System.out.println(test + ": " + named + asked + " answers, " + wrong + " not as due");
         if (wrong != 0) {
             System.exit(1);
         }

@@ -54,18 +54,10 @@ public final class ModelTest {
         return oneIn(30) ? below(8) - 1 : below(model.shape().getOrDefault(table, 6));
     }
 
-    private static String answer(Expect.Call call) {
-        try {
-            return Integer.toString(call.answer());
-        } catch (RuntimeException e) {
-            return e.getClass().getSimpleName();
-        }
-    }
-
     private void both(String what, Expect.Call due, Expect.Call got) {
         calls++;
-        String wanted = answer(due);
-        String given = answer(got);
+        String wanted = Expect.answer(due);
+        String given = Expect.answer(got);
         Expect.same("run " + run + ", call " + calls + ": " + what + " " + given + " for " + wanted,
             1, wanted.equals(given) ? 1 : 0);
     }
