@@ -55,6 +55,9 @@ public final class ModelTest {
     }
 
     private void both(String what, Expect.Call due, Expect.Call got) {
+        if (calls >= CALLS) {
+            return;
+        }
         calls++;
         String wanted = Expect.answer(due);
         String given = Expect.answer(got);

@@ -40,7 +40,7 @@ public final class Promise12Test {
             RelationDesk desk = Expect.desk(1, 7);
             desk.feed(6);
             Expect.feed(desk, unions());
-            Expect.state("feed(0)", () -> desk.feed(0));
+            Expect.state("feed(11)", () -> desk.feed(11));
             Expect.same("prepare()", 1, desk.prepare());
             Expect.same("place()", -1, desk.place());
             Expect.same("step(20)", 1, desk.step(20));

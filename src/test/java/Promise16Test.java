@@ -108,6 +108,26 @@ public final class Promise16Test {
             Expect.same("step(1)", 2, desk.step(1));
             both(desk, 7, 8);
         });
+        Expect.edge("promise 16, the fuel was spent on a row that DISTINCT gave before: the row that came last", () -> {
+            RelationDesk desk = Expect.desk(2, 7, 8, 9, 10);
+            Expect.prepare(desk, 6, 5, 0, 0, 0, 0);
+            Expect.same("step(1)", 1, desk.step(1));
+            Expect.same("step(1)", 1, desk.step(1));
+            Expect.same("step(1)", 2, desk.step(1));
+            both(desk, 9, 10);
+        });
+        Expect.edge("promise 16, the fuel was spent in the second of a CROSS: the row that came last", () -> {
+            RelationDesk desk = Expect.desk(1, 7, 9);
+            Expect.prepare(desk, 3, 0, 0, 7, 0, 1, 0, 0);
+            Expect.same("step(3)", 1, desk.step(3));
+            Expect.same("step(3)", 1, desk.step(3));
+            both(desk, 7, 7);
+            Expect.same("step(1)", 2, desk.step(1));
+            Expect.same("step(1)", 2, desk.step(1));
+            both(desk, 7, 7);
+            Expect.same("step(1)", 1, desk.step(1));
+            both(desk, 9, 9);
+        });
         Expect.edge("promise 16, the end: the row that came last", () -> {
             RelationDesk desk = came();
             Expect.same("step(5)", 0, desk.step(5));

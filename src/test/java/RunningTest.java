@@ -220,7 +220,7 @@ public final class RunningTest {
     /** What an earlier query kept or read is nothing to a later one. */
     private static void again() {
         RelationDesk desk = Expect.desk(2, 1, 10, 2, 20, 1, 30);
-        for (int i = 0; i < 8; i++) {
+        for (int i = 0; i < 5; i++) {
             Expect.gives("DISTINCT", desk, Expect.words(6, 2, 1, 0, 0, 0), 1, 3, 1, 2);
             Expect.gives("SORT", desk, Expect.words(7, 1, 1, 0, 0), 2, 3, 1, 30, 2, 20, 1, 10);
             Expect.gives("GROUP", desk, Expect.words(10, 0, 0, 0, 0, 0), 2, 3, 1, 2, 2, 1);

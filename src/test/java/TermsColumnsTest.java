@@ -189,7 +189,7 @@ public final class TermsColumnsTest {
     }
 
     private static void order() {
-        Expect.edge("promise 14, a column, and a word within its term, that can't be: the term is not known, wrong at the word", () -> {
+        Expect.edge("promise 14, a column, and a word within its term, that can't be: wrong at the word", () -> {
             wrong(5, 1, 9, 0, 0, 0, 9);
             wrong(4, 1, 9, 0, 0, 11, 0);
             wrong(5, 1, 9, 0, 0, 8, -1, 0, 0);
@@ -205,12 +205,12 @@ public final class TermsColumnsTest {
             wrong(1, 3, 1, 9, 0, 0, 0, 0, 99);
             wrong(1, 3, 1, 9, 0, 0, 0, 0);
         });
-        Expect.edge("promise 14, several terms whose columns can't be, one in the other: the inner one, whose parts end first", () -> {
+        Expect.edge("promise 14, columns of terms one in the other that can't be: the inner one's parts end first", () -> {
             wrong(4, 1, 9, 0, 0, 1, 9, 0, 0, 0, 0);
             wrong(6, 7, 9, 0, 2, 1, 9, 7, 9, 0, 0, 0);
             wrong(1, 5, 5, 0, 0, 0, 1, 0, 1);
         });
-        Expect.edge("promise 14, several terms whose columns can't be, side by side: the first one, whose parts end first", () ->
+        Expect.edge("promise 14, columns of terms side by side that can't be: the first one's parts end first", () ->
             wrong(1, 3, 7, 9, 0, 0, 0, 7, 9, 0, 0, 0));
         Expect.edge("promise 14, JOIN's c and a column within its second term: that term's parts end first", () ->
             wrong(5, 4, 9, 0, 0, 0, 7, 9, 0, 0, 0));
