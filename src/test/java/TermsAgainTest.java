@@ -16,6 +16,7 @@ public final class TermsAgainTest {
 
     public static void main(String[] args) {
         leftOnItsWay();
+        columnsOfBefore();
         cutShort();
         lastCalls();
         Expect.finish("TermsAgainTest");
@@ -63,6 +64,27 @@ public final class TermsAgainTest {
                 }
             });
         }
+    }
+
+    private static void columnsOfBefore() {
+        Expect.edge("promise 13, PROJECT of 1 column of 1 behind one of 8 columns of 6: the others are not asked for", () -> {
+            RelationDesk desk = Expect.tables(6, 1);
+            Expect.put(desk, 1, 1, 7);
+            Expect.same("prepare()", 8, Expect.prepare(desk, 2, 8, 5, 5, 5, 5, 5, 5, 5, 5, 0, 0));
+            Expect.same("prepare()", 1, Expect.prepare(desk, 2, 1, 0, 0, 1));
+            Expect.same("step(1)", 1, desk.step(1));
+            Expect.same("column(0)", 7, desk.column(0));
+            Expect.same("column(1)", 0, desk.column(1));
+        });
+        Expect.edge("promise 13, a right query behind a wrong one of each kind: nothing is left of that", () -> {
+            for (int i = 0; i < QUERIES.length * QUERIES.length; i++) {
+                int[] words = QUERIES[i % QUERIES.length];
+                int[] before = QUERIES[i / QUERIES.length];
+                RelationDesk desk = desk();
+                Expect.argument("prepare()", () -> Expect.prepare(desk, Arrays.copyOf(before, before.length + 1)));
+                Expect.same("behind " + Arrays.toString(before), told(desk(), words), told(desk, words));
+            }
+        });
     }
 
     /** So many rows of the part alone, as the second of a CROSS of two rows. */

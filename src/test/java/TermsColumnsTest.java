@@ -214,6 +214,11 @@ public final class TermsColumnsTest {
             wrong(1, 3, 7, 9, 0, 0, 0, 7, 9, 0, 0, 0));
         Expect.edge("promise 14, JOIN's c and a column within its second term: that term's parts end first", () ->
             wrong(5, 4, 9, 0, 0, 0, 7, 9, 0, 0, 0));
+        Expect.edge("promise 14, JOIN's c and a word within its second term that can't be: wrong at the word", () -> {
+            wrong(6, 4, 9, 0, 0, 0, 0, 9);
+            wrong(5, 4, 9, 0, 0, 0, 11);
+            wrong(5, 4, 9, 0, 0, 0);
+        });
         Expect.edge("promise 14, JOIN's c and too many columns, or UNION's: one place, the kind's word", () -> {
             wrong(0, 4, 9, 0, 0, 1, 3, 0, 1, 0, 0);
             wrong(0, 4, 9, 9, 0, 1, 0, 1);
