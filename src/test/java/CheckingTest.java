@@ -1,5 +1,3 @@
-import java.util.Arrays;
-
 /** Promises 12 to 14: feed, prepare, place, and where a query is wrong. */
 public final class CheckingTest {
     public static void main(String[] args) {
@@ -15,27 +13,15 @@ public final class CheckingTest {
 
     /** A desk with tables of 1, 6, 3 and 4 columns. */
     private static RelationDesk desk() {
-        RelationDesk desk = new RelationDesk();
-        desk.table(1);
-        desk.table(6);
-        desk.table(3);
-        desk.table(4);
-        return desk;
+        return Expect.tables(1, 6, 3, 4);
     }
 
     private static void right(int columns, int... words) {
-        RelationDesk desk = desk();
-        String query = Arrays.toString(words);
-        Expect.same("prepare() of " + query, columns, Expect.prepare(desk, words));
-        Expect.same("place() of " + query, -1, desk.place());
+        Expect.right(desk(), columns, words);
     }
 
     private static void wrong(int place, int... words) {
-        RelationDesk desk = desk();
-        String query = Arrays.toString(words);
-        Expect.argument("prepare() of " + query, () -> Expect.prepare(desk, words));
-        Expect.same("place() of " + query, place, desk.place());
-        Expect.state("step behind " + query, () -> desk.step(1));
+        Expect.wrong(desk(), place, words);
     }
 
     private static void feeding() {

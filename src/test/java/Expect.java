@@ -1,3 +1,5 @@
+import java.util.Arrays;
+
 /** Counts the answers that are not the ones due, and makes desks quickly. */
 final class Expect {
     interface Call {
@@ -138,6 +140,28 @@ final class Expect {
     static int prepare(RelationDesk desk, int... words) {
         feed(desk, words);
         return desk.prepare();
+    }
+
+    /** The words are a right query of so many columns. */
+    static void right(RelationDesk desk, int columns, int... words) {
+        String query = Arrays.toString(words);
+        same("prepare() of " + query, Integer.toString(columns), answer(() -> prepare(desk, words)));
+        same("place() of " + query, -1, desk.place());
+    }
+
+    /** The words are wrong at that place, and no query is prepared then. */
+    static void wrong(RelationDesk desk, int place, int... words) {
+        String query = Arrays.toString(words);
+        argument("prepare() of " + query, () -> prepare(desk, words));
+        same("place() of " + query, place, desk.place());
+        state("step(1) behind " + query, () -> desk.step(1));
+    }
+
+    /** The same words but for one. */
+    static int[] with(int[] words, int at, int word) {
+        int[] changed = words.clone();
+        changed[at] = word;
+        return changed;
     }
 
     /** The table's rows are these, cell by cell. */

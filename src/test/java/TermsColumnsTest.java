@@ -18,24 +18,11 @@ public final class TermsColumnsTest {
     }
 
     private static void right(int columns, int... words) {
-        RelationDesk desk = desk();
-        String query = Arrays.toString(words);
-        Expect.same("prepare() of " + query, Integer.toString(columns), Expect.answer(() -> Expect.prepare(desk, words)));
-        Expect.same("place() of " + query, -1, desk.place());
+        Expect.right(desk(), columns, words);
     }
 
     private static void wrong(int place, int... words) {
-        RelationDesk desk = desk();
-        String query = Arrays.toString(words);
-        Expect.argument("prepare() of " + query, () -> Expect.prepare(desk, words));
-        Expect.same("place() of " + query, place, desk.place());
-        Expect.state("step(1) behind " + query, () -> desk.step(1));
-    }
-
-    private static int[] with(int[] words, int at, int word) {
-        int[] changed = words.clone();
-        changed[at] = word;
-        return changed;
+        Expect.wrong(desk(), place, words);
     }
 
     /** The same query within a DISTINCT, so that its kind's word is not the first one. */
@@ -50,12 +37,12 @@ public final class TermsColumnsTest {
     private static void bounds(String what, int at, int width, int columns, int... words) {
         for (int c : new int[] {0, width - 1}) {
             Expect.edge("promise 13, " + what + " " + c + " of " + width + " columns: right", () ->
-                right(columns, with(words, at, c)));
+                right(columns, Expect.with(words, at, c)));
         }
         for (int c : Expect.outside(0, width - 1)) {
             Expect.edge("promise 14, " + what + " " + c + " of " + width + " columns: wrong at the kind's word", () -> {
-                wrong(0, with(words, at, c));
-                wrong(1, within(with(words, at, c)));
+                wrong(0, Expect.with(words, at, c));
+                wrong(1, within(Expect.with(words, at, c)));
             });
         }
     }
@@ -157,7 +144,7 @@ public final class TermsColumnsTest {
         Expect.edge("promise 14, eleven terms within one another, ten of them " + kind
             + ": the eleventh is wrong at its kind's word, be it right, no kind, or missing", () -> {
             wrong(eleventhAt, levels(10, words));
-            wrong(eleventhAt, with(levels(10, words), eleventhAt, 11));
+            wrong(eleventhAt, Expect.with(levels(10, words), eleventhAt, 11));
             wrong(eleventhAt, Arrays.copyOf(levels(10, words), eleventhAt));
         });
     }

@@ -28,24 +28,11 @@ public final class TermsWordsTest {
     }
 
     private static void right(int columns, int... words) {
-        RelationDesk desk = desk();
-        String query = Arrays.toString(words);
-        Expect.same("prepare() of " + query, Integer.toString(columns), Expect.answer(() -> Expect.prepare(desk, words)));
-        Expect.same("place() of " + query, -1, desk.place());
+        Expect.right(desk(), columns, words);
     }
 
     private static void wrong(int place, int... words) {
-        RelationDesk desk = desk();
-        String query = Arrays.toString(words);
-        Expect.argument("prepare() of " + query, () -> Expect.prepare(desk, words));
-        Expect.same("place() of " + query, place, desk.place());
-        Expect.state("step(1) behind " + query, () -> desk.step(1));
-    }
-
-    private static int[] with(int[] words, int at, int word) {
-        int[] changed = words.clone();
-        changed[at] = word;
-        return changed;
+        Expect.wrong(desk(), place, words);
     }
 
     private static void kinds() {
@@ -74,7 +61,7 @@ public final class TermsWordsTest {
             });
             Expect.edge("promise 14, " + KINDS[kind] + " with one or more words too much: wrong at the first of them", () -> {
                 for (int more : new int[] {0, 11, -1, Integer.MIN_VALUE}) {
-                    wrong(words.length, with(Arrays.copyOf(words, words.length + 1), words.length, more));
+                    wrong(words.length, Expect.with(Arrays.copyOf(words, words.length + 1), words.length, more));
                 }
                 wrong(words.length, Arrays.copyOf(words, 60));
             });
@@ -87,15 +74,15 @@ public final class TermsWordsTest {
     private static void bounds(String what, int kind, int at, int least, int most) {
         for (int word : new int[] {least, most}) {
             Expect.edge("promise 13, " + KINDS[kind] + "'s " + what + " " + word + " (of " + least + " .. " + most
-                + "): right", () -> right(kind == 0 ? word == 0 ? 1 : 3 : WIDTHS[kind], with(RIGHT[kind], at, word)));
+                + "): right", () -> right(kind == 0 ? word == 0 ? 1 : 3 : WIDTHS[kind], Expect.with(RIGHT[kind], at, word)));
         }
         for (int word : Expect.outside(least, most)) {
             Expect.edge("promise 14, " + KINDS[kind] + "'s " + what + " " + word + " (not " + least + " .. " + most
                 + "): wrong at that word, whatever is missing or wrong behind it", () -> {
-                wrong(at, with(RIGHT[kind], at, word));
-                wrong(at, Arrays.copyOf(with(RIGHT[kind], at, word), at + 1));
-                int[] more = Arrays.copyOf(with(RIGHT[kind], at, word), at + 2);
-                wrong(at, with(more, at + 1, 11));
+                wrong(at, Expect.with(RIGHT[kind], at, word));
+                wrong(at, Arrays.copyOf(Expect.with(RIGHT[kind], at, word), at + 1));
+                int[] more = Arrays.copyOf(Expect.with(RIGHT[kind], at, word), at + 2);
+                wrong(at, Expect.with(more, at + 1, 11));
             });
         }
     }
@@ -122,7 +109,7 @@ public final class TermsWordsTest {
 
     private static void selectValues() {
         for (int v : new int[] {Integer.MIN_VALUE, -1, 0, Integer.MAX_VALUE}) {
-            Expect.edge("promise 13, SELECT's v " + v + ": any int can be", () -> right(6, with(RIGHT[1], 3, v)));
+            Expect.edge("promise 13, SELECT's v " + v + ": any int can be", () -> right(6, Expect.with(RIGHT[1], 3, v)));
         }
     }
 
